@@ -1,4 +1,4 @@
-import java.util.function.ToIntFunction;
+import java.util.function.IntUnaryOperator;
 
 /** What all of promises 10 to 21 share: 150 nodes, 2048 cells, 40 places, a depth of 40, and what is looked at first. */
 public final class LimitTest {
@@ -7,21 +7,17 @@ public final class LimitTest {
         depthIsLookedAtLast();
         largeVersions();
         longShapes();
+        longInTheThird();
         largeShapes();
         Check.end();
     }
 
     /** Every operator on node a of two dimensions; those of two sources take it twice. */
-    private static ToIntFunction<Integer>[] operators(GridVault x) {
-        @SuppressWarnings("unchecked")
-        ToIntFunction<Integer>[] all = new ToIntFunction[] {
-            (ToIntFunction<Integer>) a -> x.sub(a, 0, 0, 0), (ToIntFunction<Integer>) a -> x.slice(a, 0, 0),
-            (ToIntFunction<Integer>) a -> x.extend(a, 0, 0, 1), (ToIntFunction<Integer>) a -> x.apply(a, 0, 1),
-            (ToIntFunction<Integer>) a -> x.filter(a, 0, 1), (ToIntFunction<Integer>) a -> x.join(a, a, 0),
-            (ToIntFunction<Integer>) a -> x.gather(a, 0, 0), (ToIntFunction<Integer>) a -> x.regrid(a, 0, 1, 0),
-            (ToIntFunction<Integer>) a -> x.window(a, 0, 1, 0), (ToIntFunction<Integer>) a -> x.swap(a, 0, 1),
-            (ToIntFunction<Integer>) a -> x.product(a, a)};
-        return all;
+    private static IntUnaryOperator[] operators(GridVault x) {
+        return new IntUnaryOperator[] {
+            a -> x.sub(a, 0, 0, 0), a -> x.slice(a, 0, 0), a -> x.extend(a, 0, 0, 1), a -> x.apply(a, 0, 1),
+            a -> x.filter(a, 0, 1), a -> x.join(a, a, 0), a -> x.gather(a, 0, 0), a -> x.regrid(a, 0, 1, 0),
+            a -> x.window(a, 0, 1, 0), a -> x.swap(a, 0, 1), a -> x.product(a, a)};
     }
 
     private static GridVault square() {
@@ -39,9 +35,9 @@ public final class LimitTest {
         }
         Check.throwing("a 151st read", Check.INDEX, () -> x.read(1));
         Check.throwing("a 151st read, wrong too", Check.INDEX, () -> x.read(9));
-        ToIntFunction<Integer>[] all = operators(x);
+        IntUnaryOperator[] all = operators(x);
         for (int i = 0; i < all.length; i++) {
-            ToIntFunction<Integer> op = all[i];
+            IntUnaryOperator op = all[i];
             Check.throwing("a 151st node, " + i, Check.INDEX, () -> op.applyAsInt(0));
             Check.throwing("a 151st node, wrong too, " + i, Check.INDEX, () -> op.applyAsInt(-1));
         }
@@ -59,9 +55,9 @@ public final class LimitTest {
         }
         int deepest = deep;
         int nodes = x.count(1);
-        ToIntFunction<Integer>[] all = operators(x);
+        IntUnaryOperator[] all = operators(x);
         for (int i = 0; i < all.length; i++) {
-            ToIntFunction<Integer> op = all[i];
+            IntUnaryOperator op = all[i];
             Check.throwing("a depth of 41, " + i, Check.UNSUPPORTED, () -> op.applyAsInt(deepest));
             Check.due("depth of operator " + i, x.shape(op.applyAsInt(deepest - 1), 1), 40);
         }
@@ -120,6 +116,17 @@ public final class LimitTest {
         Check.due("1600 cells", x.shape(square, 8), 4);
         Check.due("40 by 40", x.shape(x.extend(tall, 1, 0, 39), 8), 4);
         Check.due("long window", x.all(x.window(wide, 1, 40, 1), 1), 80);
+    }
+
+    private static void longInTheThird() {
+        GridVault x = new GridVault();
+        x.begin(3, 0, 1, 0, 1, 0, 1);
+        int a = x.read(0);
+        for (int d = 0; d < 3; d++) {
+            int e = d;
+            Check.throwing("41 places in " + d, Check.UNSUPPORTED, () -> x.extend(a, e, 0, 40));
+            Check.due("40 places in " + d, x.shape(x.extend(a, d, 0, 39), 3 + 2 * d), 39);
+        }
     }
 
     private static void largeShapes() {
