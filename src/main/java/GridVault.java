@@ -353,6 +353,7 @@ public final class GridVault {
         private final int dimensions;
         private final int[] lows;
         private final int[] highs;
+        private final int[] lengths;
         /** How far apart in the row of cells two neighbours along a dimension are: the last one goes fastest. */
         private final int[] steps;
         private final int size;
@@ -361,8 +362,9 @@ public final class GridVault {
             this.dimensions = dimensions;
             this.lows = lows;
             this.highs = highs;
+            lengths = new int[] {high(0) - low(0) + 1, high(1) - low(1) + 1, high(2) - low(2) + 1};
             steps = new int[] {length(1) * length(2), length(2), 1};
-            size = length(0) * length(1) * length(2);
+            size = length(0) * step(0);
         }
 
         int dimensions() {
@@ -378,7 +380,7 @@ public final class GridVault {
         }
 
         int length(int d) {
-            return high(d) - low(d) + 1;
+            return d >= 0 && d < lengths.length ? lengths[d] : 1;
         }
 
         int step(int d) {
@@ -935,7 +937,7 @@ public final class GridVault {
         private int lastPlace(int index) {
             switch (kind) {
                 case REGRID:
-                    return firstPlace(index) + reach - 1;
+                    return form().placeOf(index, d) * reach + reach - 1;
                 case WINDOW:
                     return form().placeOf(index, d) + reach;
                 default:

