@@ -98,8 +98,9 @@ public final class AskBoundaryTest {
 
     private static void cellBeyondTheEnds() {
         Check.sentence("promise 23: IndexOutOfBoundsException: there is none");
-        int[][] beyond = {{-2, 3, 7}, {1, 3, 7}, {-1, 2, 7}, {-1, 5, 7}, {-1, 3, 6}, {-1, 3, 9}, {DEEP, 3, 7},
-            {FAR, 3, 7}, {-1, DEEP, 7}, {-1, FAR, 7}, {-1, 3, DEEP}, {-1, 3, FAR}};
+        int[][] beyond = {{-2, 3, 7}, {1, 3, 7}, {-1, 2, 7}, {-1, 5, 7}, {-1, 3, 6}, {-1, 3, 9}, {-2, 4, 8}, {1, 4, 8},
+            {0, 2, 8}, {0, 5, 8}, {0, 4, 6}, {0, 4, 9}, {DEEP, 3, 7}, {FAR, 3, 7}, {-1, DEEP, 7}, {-1, FAR, 7},
+            {-1, 3, DEEP}, {-1, 3, FAR}};
         for (int[] b : beyond) {
             Check.refused("cell " + b[0] + " " + b[1] + " " + b[2], Check.INDEX, AskBoundaryTest::box,
                     x -> x.cell(0, b[0], b[1], b[2]));

@@ -109,10 +109,11 @@ final class Check {
     }
 
     private static void noneBeyond(String name, GridVault x, int node, int[] ends) {
-        for (int i = 0; i < ends.length; i++) {
-            int[] at = Given.firstPlace(ends);
-            at[i / 2] = i % 2 == 0 ? ends[i] - 1 : ends[i] + 1;
-            throwing(name + ": beyond end " + i, INDEX, () -> x.cell(node, at[0], at[1], at[2]));
+        for (int i = 0; i < 2 * ends.length; i++) {
+            int end = i / 2;
+            int[] at = i % 2 == 0 ? Given.firstPlace(ends) : Given.lastPlace(ends);
+            at[end / 2] = end % 2 == 0 ? ends[end] - 1 : ends[end] + 1;
+            throwing(name + ": beyond end " + end, INDEX, () -> x.cell(node, at[0], at[1], at[2]));
         }
     }
 

@@ -45,16 +45,19 @@ public final class DeskBoundaryTest {
     private static void beyondTheEnds(String name, AtPlace call) {
         for (int n = 1; n <= 3; n++) {
             for (int end = 0; end < 2 * n; end++) {
-                int[] beyond = {end % 2 == 0 ? ENDS[end] - 1 : ENDS[end] + 1, end % 2 == 0 ? DEEP : FAR};
-                for (int b : beyond) {
-                    int[] place = {ENDS[0], ENDS[2], ENDS[4]};
-                    place[end / 2] = b;
-                    int dimensions = n;
-                    Check.refused(name + " beyond end " + end + " of " + n + " dimensions: " + b, Check.INDEX,
-                            () -> filled(dimensions), x -> call.at(x, place));
-                }
+                int beyond = end % 2 == 0 ? ENDS[end] - 1 : ENDS[end] + 1;
+                int far = end % 2 == 0 ? DEEP : FAR;
+                refusedAt(name, n, Given.firstPlace(ENDS), end / 2, beyond, call);
+                refusedAt(name, n, Given.lastPlace(ENDS), end / 2, beyond, call);
+                refusedAt(name, n, Given.firstPlace(ENDS), end / 2, far, call);
             }
         }
+    }
+
+    private static void refusedAt(String name, int n, int[] place, int d, int beyond, AtPlace call) {
+        place[d] = beyond;
+        Check.refused(name + " at " + beyond + " of dimension " + d + " of " + n, Check.INDEX, () -> filled(n),
+                x -> call.at(x, place));
     }
 
     private static GridVault filled(int dimensions) {

@@ -118,6 +118,10 @@ final class Given {
         return new int[] {end(ends, 0), end(ends, 2), end(ends, 4)};
     }
 
+    static int[] lastPlace(int[] ends) {
+        return new int[] {end(ends, 1), end(ends, 3), end(ends, 5)};
+    }
+
     /** The last dimension goes fastest. */
     static void nextPlace(int[] at, int[] ends) {
         for (int d = ends.length / 2 - 1; d >= 0; d--) {
